@@ -552,26 +552,30 @@ public final class SnowInns {
         }
 
         int faultOfCell(int asLane, int i) {
-            if (isThere() && lane != asLane) {
-                return CAST;
-            }
-            if (!isThere()) {
-                return NULL;
+            int fault = faultOfLane(asLane);
+            if (fault != NO_FAULT) {
+                return fault;
             }
             return hasCell(i) ? NO_FAULT : INDEX;
         }
 
         int faultOfRow(int asLane, int i, int n) {
-            if (isThere() && lane != asLane) {
-                return CAST;
-            }
-            if (!isThere()) {
-                return NULL;
+            int fault = faultOfLane(asLane);
+            if (fault != NO_FAULT) {
+                return fault;
             }
             if (n < 0) {
                 return SIZE;
             }
             return hasCells(i, n) ? NO_FAULT : INDEX;
+        }
+
+        private int faultOfLane(int asLane) {
+            // Nothing may be taken as a row of any LANE: it is no CAST.
+            if (!isThere()) {
+                return NULL;
+            }
+            return lane == asLane ? NO_FAULT : CAST;
         }
     }
 
@@ -1053,7 +1057,7 @@ public final class SnowInns {
             int many = 0;
             for (int wind = 0; wind < WINDS; wind++) {
                 nights.pass(night, wind);
-                // Once they met, whatever winds follow count.
+                // Behind a meeting all winds count, whatever they are.
                 many += nights.isMeeting(members, night + 1)
                         ? 1 << (n - night - 1)
                         : meetingWinds(nights, members, night + 1, n);

@@ -9,6 +9,7 @@ public final class FamiliesTest {
         leastRefused();
         turn();
         corks();
+        greatestRidge();
         due.end();
     }
 
@@ -41,6 +42,8 @@ public final class FamiliesTest {
         leastIs("i,n3,n0,n0;>2+00+01", 1, 1, 0, 1);
         leastIs("i,n0,n2,n0;>2+00+02", 1, 1, 1, 2);
         leastIs("i,n9,n0;>2+01+01+01", 1, 3, 0, 1);
+        // 9 at first are 1 behind four nights without snow: it takes all of them.
+        leastIs("i,n9,n0;>0>0>0>0+01", 4, 9, 0, 1);
         leastIs("i,n1,n0;>2>0+00", 1, 0, -9, -9);
         leastIs("i,n1,n0;>2>0+00", 2, -9, -9, -9);
         // No more than there are: 2 would do, but INN 0 has 1.
@@ -82,8 +85,21 @@ public final class FamiliesTest {
         SnowInns y = Due.told("i,c0,n1;>2>0+00+01");
         due.is("the second night: turn(0, 2)", y.turn(0, 2), 1);
         due.is("the second night is not of these: turn(0, 1)", y.turn(0, 1), -9);
+        due.is("from < to >: turn(0, 1)", Due.told("i,n0,n1;<2+00").turn(0, 1), 0);
+        due.is("it meets only behind these: turn(0, 1)", Due.told("i,n1,n0;>2<2+01").turn(0, 1), 0);
         due.is("by none: turn(0, 1)", Due.told("i,n0,n0;>2+00").turn(0, 1), -9);
         due.is("no ridge: turn(0, 0)", new SnowInns().turn(0, 0), -1);
+    }
+
+    private static void greatestRidge() {
+        SnowInns x = Due.told("i,n0,n0,n0,n0,n0,n1;>2>2>2>2>2>2>2>2+00+00+00+00+00+00+00+10");
+        due.is("greatest: meet(0)", x.meet(0), -9);
+        due.is("greatest: turn(0, 8)", x.turn(0, 8), -9);
+        due.is("greatest: least(8, 0)", x.least(8, 0), -9);
+        due.is("greatest: corks(7)", x.corks(7), 63);
+        x.rule(1);
+        due.is("greatest, rule 1: meet(1)", x.meet(1), 0);
+        due.is("greatest, rule 1: turn(1, 8)", x.turn(1, 8), -9);
     }
 
     private static void corks() {

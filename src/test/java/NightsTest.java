@@ -8,6 +8,8 @@ public final class NightsTest {
         kindsKeep();
         roadAndBack();
         passedJoinThoseThere();
+        greatestRidge();
+        anotherRidge();
         refusals();
         list();
         listRefused();
@@ -75,6 +77,32 @@ public final class NightsTest {
         places(x, "who comes may stay", 1, 1, 2);
         x.gust(0, true);
         places(x, "the other wind", 1, 3, 1);
+    }
+
+    private static void greatestRidge() {
+        SnowInns x = Due.told("i,n0,n0,n0,n0,n0,n1;>2>2>2>2>2>2>2<2+00+00+00+00+00+00+00+00");
+        for (int n = 1; n < 8; n++) {
+            due.is("greatest: beds(5, " + n + ")", x.beds(5, n), 1);
+            due.is("greatest: beds(6, " + n + ")", x.beds(6, n), 254);
+            due.is("greatest: deep(5, " + n + ")", x.deep(5, n), 1);
+        }
+        due.is("greatest: where(7, 8)", x.where(7, 8), 6);
+        due.is("greatest: where(0, 8)", x.where(0, 8), 5);
+        x.rule(1);
+        due.is("greatest, rule 1: where(7, 8)", x.where(7, 8), 5);
+        due.is("greatest, rule 1: where(0, 8)", x.where(0, 8), 6);
+        due.is("greatest, rule 1: beds(6, 8)", x.beds(6, 8), 127);
+    }
+
+    private static void anotherRidge() {
+        SnowInns x = Due.told("i,n1,n2,n3;>2+00+01+02");
+        places(x, "the first ridge", 1, 0, 1, 2);
+        Due.tell(x, "i,n9,n9;>0+01");
+        due.is("another ridge: beds(0, 0)", x.beds(0, 0), 0);
+        due.is("another ridge: beds(1, 0)", x.beds(1, 0), 1);
+        due.is("another ridge: beds(2, 0)", x.beds(2, 0), 0);
+        due.is("another ridge: beds(2, 1)", x.beds(2, 1), 0);
+        due.is("another ridge: deep(1, 1)", x.deep(1, 1), 7);
     }
 
     private static void refusals() {

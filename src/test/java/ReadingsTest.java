@@ -6,6 +6,7 @@ public final class ReadingsTest {
         reading();
         back();
         whatMayBe();
+        greaterKinds();
         onTheRoad();
         secondNight();
         sets();
@@ -69,6 +70,15 @@ public final class ReadingsTest {
         due.is("all is as it was: many(3)", x.many(3), 0);
     }
 
+    private static void greaterKinds() {
+        SnowInns x = Due.told("i,n0,n9;>2+00+00");
+        x.reading(0, 0, 0);
+        due.is("a LODGE or a CASTLE: kinds(0)", x.kinds(0), 6);
+        x.reading(1, 0, 0);
+        due.is("a CASTLE: kinds(0)", x.kinds(0), 4);
+        due.is("not the other one: kinds(1)", x.kinds(1), 0);
+    }
+
     private static void onTheRoad() {
         SnowInns x = Due.told("i,n2,n1;>2+00+00+00+00");
         x.reading(3, 2, 0);
@@ -125,6 +135,13 @@ public final class ReadingsTest {
         oddsAre(Due.told("i,n0,n0;>2>2>2+00"), "never", 3, 0, 1);
         oddsAre(Due.told("i,c0,n1;>2>0+00+01"), "the second night", 1, 0, 1);
         oddsAre(Due.told("i,c0,n1;>2>0+00+01"), "the second night", 2, 1, 2);
+        SnowInns greatest = Due.told("i,n1,n0,n0,n0,n0,n0;>2>2>2>2>2>2>2>2+00+00+01+01+02+03+04+15");
+        // Guest 7 never has a bed: the one there is belongs to guest 0.
+        due.is("greatest: odds(1, 8, 0)", greatest.odds(1, 8, 0), 0);
+        greatest.rule(1);
+        // Now the bed is guest 7's as soon as one wind is <.
+        due.is("greatest, rule 1: odds(1, 8, 0)", greatest.odds(1, 8, 0), 255);
+        due.is("greatest, rule 1: odds(1, 8, 1)", greatest.odds(1, 8, 1), 256);
         due.is("odds(1, 9, 9)", x.odds(1, 9, 9), SnowInns.LOST);
         due.is("odds(-1, 0, 0)", x.odds(-1, 0, 0), SnowInns.LOST);
         due.is("odds(4, 0, 0)", x.odds(4, 0, 0), SnowInns.LOST);

@@ -116,6 +116,11 @@ public final class RidgeTest {
         Due.write(x, 2, 5, "i,n0,x");
         due.is("the place counts from i on", x.ridge(2, 2, 5, 6), -105);
         due.is("no code at the end", x.ridge(2, 2, 20, 0), -100);
+        x.sheet(2, 2, 20);
+        Due.write(x, 2, 0, SHORTEST);
+        for (int n = 0; n < 13; n++) {
+            due.is("the text ends though the row goes on: " + n, x.ridge(2, 2, 0, n), -100 - n);
+        }
     }
 
     private static void refusedText(SnowInns x, String call, int got, int want, int fault) {

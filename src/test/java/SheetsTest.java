@@ -34,10 +34,13 @@ public final class SheetsTest {
         due.is("sheet(3, 2, 60)", x.sheet(3, 2, 60), 1);
         due.is("its fault()", x.fault(), 0);
         due.is("put(3, 59, 7)", x.put(3, 59, 7), 1);
+        due.is("put(3, 0, 8)", x.put(3, 0, 8), 1);
         due.is("sheet(3, 2, -5)", x.sheet(3, 2, -5), -14);
         due.is("the row that was there stays", x.cell(3, 59, 2), 7);
         due.is("a new row", x.sheet(3, 1, 60), 1);
-        due.is("has 0 in all cells", x.cell(3, 59, 1), 0);
+        for (int i = 0; i < 60; i++) {
+            due.is("has 0 in all cells", x.cell(3, i, 1), 0);
+        }
         due.is("a row of no cells", x.sheet(3, 0, 0), 1);
         due.is("cell(3, 0, 0)", x.cell(3, 0, 0), SnowInns.LOST);
         due.is("its fault()", x.fault(), 3);
