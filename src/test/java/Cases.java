@@ -11,7 +11,6 @@ import java.util.regex.Pattern;
  */
 final class Cases {
     private static final Pattern NAME = Pattern.compile("(promise\\d\\d|block\\d|terms)_[a-z]\\w*");
-    private static final int FEWEST = 1;
 
     private static String current = "";
     private static int passed = 0;
@@ -27,7 +26,7 @@ final class Cases {
             current = each.getKey();
             int before = passed + failed;
             goThrough(each.getValue());
-            is("rows of this case", passed + failed - before >= FEWEST ? 1 : 0, 1);
+            is("it has rows", passed + failed > before ? 1 : 0, 1);
         }
         current = of.getName();
         for (int promise = firstPromise; promise <= lastPromise; promise++) {

@@ -83,6 +83,16 @@ public final class FamiliesEdgesTest {
         leastIs("i,n2,n9;>2<0+00+00", 2, 2, 0, 1);
     }
 
+    static void block3_leastOfNineInchesThatAreAllLost() {
+        leastIs("i,n9,l9;>2<0<0<0<0<0+00", 6, 9, 0, 1);
+        leastIs("i,n9,l9;>2<0<0<0<0<0+00", 5, 0, NONE, NONE);
+    }
+
+    static void block3_leastNeverBeyondTheRidge() {
+        leastIs("i,n0,n0,n0,n0,n0,n1;>2+00+00+00", 1, NONE, NONE, NONE);
+        leastIs("i,n1,n0,n0,n0,n0,n0;<2+05+05+05", 1, NONE, NONE, NONE);
+    }
+
     static void block3_leastNineAtMostThere() {
         // 7 there and 3 more are 9, not 10: 9 less 8 by four nights keep one guest, not two.
         leastIs("i,n3,n7;>0>0>0>0+01+01", 4, NONE, NONE, NONE);
@@ -138,6 +148,10 @@ public final class FamiliesEdgesTest {
         Told.of("i,n0,n0;>2>2+00").is("turn(0, 1)", NONE).is("turn(0, 2)", NONE);
     }
 
+    static void block3_turnByNoneOfEightNights() {
+        Told.of("i,n0,n0;>2>2>2>2>2>2>2>2+00").is("turn(0, 8)", NONE).is("turn(0, 7)", NONE).is("turn(0, 9)", OUTSIDE);
+    }
+
     static void block3_turnOfNoNights() {
         Told.of("i,n1,n0;>2+01").is("turn(0, 0)", NONE).is("turn(0, 1)", 0);
     }
@@ -187,6 +201,11 @@ public final class FamiliesEdgesTest {
     static void block3_corksKeepOneMoreInAllNights() {
         // INN 1 must have kept the guest in night 0 to keep them in night 1.
         Told.of("i,n1,n0;<2<0+01").is("corks(0)", 0).is("corks(1)", 3);
+    }
+
+    static void block3_corksKeepOneMoreNotTwo() {
+        // One more at INN 0 keeps another guest in night 0, and passes that one to the road in night 1.
+        Told.of("i,n2,c1;>1<0+00+00").is("beds(2, 2)", 1).is("corks(1)", 0);
     }
 
     static void block3_corksOfTheNightItself() {

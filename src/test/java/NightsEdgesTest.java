@@ -150,6 +150,18 @@ public final class NightsEdgesTest {
                 .row("where(#, 0)", 0, 0, 1).is("deep(0, 0)", 0).go("rule(1)").is("beds(0, 0)", 3);
     }
 
+    static void block2_askedAgainBehindAChange() {
+        Told told = Told.of("i,n9,n9,n9;>2+00+02").is("beds(0, 0)", 1).is("beds(0, 1)", 1).is("deep(0, 1)", 9);
+        told.go("lodge(0, 1)", "sweep(0, true, 9)", "fall(0, 0)").is("beds(0, 0)", 0).is("beds(1, 0)", 1)
+                .is("beds(0, 1)", 0).is("beds(1, 1)", 1).is("deep(0, 0)", 0).is("deep(1, 1)", 7);
+    }
+
+    static void block2_askedAgainBehindAnotherText() {
+        Told told = Told.of("i,n9,n9,n9;>2+00+02").is("beds(2, 0)", 2).is("beds(2, 1)", 2);
+        told.ridge("i,n9,n9;>2+01");
+        told.is("beds(0, 0)", 0).is("beds(1, 0)", 1).is("beds(2, 0)", 0).is("beds(2, 1)", 0).is("where(0, 1)", 1);
+    }
+
     // ---- promise 11
 
     static void promise11_noSuchGuest() {
