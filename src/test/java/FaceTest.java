@@ -5,7 +5,9 @@ import java.lang.reflect.Method;
 import java.lang.reflect.Modifier;
 import java.nio.file.Files;
 import java.nio.file.Path;
+import java.util.ArrayList;
 import java.util.Arrays;
+import java.util.List;
 import java.util.Set;
 import java.util.TreeSet;
 import java.util.regex.Matcher;
@@ -32,6 +34,7 @@ public final class FaceTest {
         constants();
         methods();
         nothingElseIsVisible();
+        classesAreSmall();
         language(Files.readString(Path.of("src/main/java/SnowInns.java")));
         due.end();
     }
@@ -88,6 +91,20 @@ public final class FaceTest {
         holds("one public constructor", made.length == 1 && isOpen(made[0].getModifiers()));
     }
 
+    private static void classesAreSmall() {
+        List<Class<?>> classes = new ArrayList<>(List.of(SnowInns.class.getDeclaredClasses()));
+        classes.add(SnowInns.class);
+        holds("at most 12 classes: " + classes.size(), classes.size() <= 12);
+        for (Class<?> one : classes) {
+            long fields = Arrays.stream(one.getDeclaredFields())
+                    .filter(f -> !Modifier.isStatic(f.getModifiers())).count();
+            holds("at most 20 fields: " + one + ", " + fields, fields <= 20);
+            for (Method m : one.getDeclaredMethods()) {
+                holds("at most 7 parameters: " + m, m.getParameterCount() <= 7);
+            }
+        }
+    }
+
     private static boolean isOpen(int modifiers) {
         return Modifier.isPublic(modifiers);
     }
@@ -104,7 +121,26 @@ public final class FaceTest {
                 holds("a sign beyond 127: " + (int) c, false);
             }
         }
+        libraryIsListed(code);
         methodsAreShort(code);
+    }
+
+    /** Of the library's static functions only those that rule 4 lists, and nothing of it is made. */
+    private static void libraryIsListed(String code) {
+        Matcher used = Pattern.compile("\\b([A-Z]\\w*)\\.(\\w+)").matcher(code);
+        while (used.find()) {
+            String name = used.group();
+            boolean isNumbers = Set.of("Math", "Integer", "Long").contains(used.group(1)) && !name.endsWith("Exact");
+            holds("rule 4 lists " + name, isNumbers || name.equals("System.arraycopy"));
+        }
+        Set<String> own = new TreeSet<>(Set.of("int", "SnowInns"));
+        for (Class<?> inside : SnowInns.class.getDeclaredClasses()) {
+            own.add(inside.getSimpleName());
+        }
+        Matcher made = Pattern.compile("\\bnew (\\w+)").matcher(code);
+        while (made.find()) {
+            holds("new " + made.group(1) + " is of its own", own.contains(made.group(1)));
+        }
     }
 
     private static void methodsAreShort(String code) {
